@@ -189,7 +189,10 @@ public final class CourseTest {
         w.add(2, 3);
         w.add(2, 0);
         CHECK.due("on the start", false, () -> w.isLawful(2));
-        CHECK.fails(INDEX, "course 3", () -> w.isLawful(3));
+        w.course(24);
+        w.add(3, 3);
+        CHECK.due("the first one on the start", false, () -> w.isLawful(3));
+        CHECK.fails(INDEX, "course 4", () -> w.isLawful(4));
         CHECK.fails(INDEX, "course -1", () -> w.isLawful(-1));
     }
 

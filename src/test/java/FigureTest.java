@@ -40,6 +40,9 @@ public final class FigureTest {
         CHECK.due("three", 32.0 / 3.0, () -> w.meanTime(1));
         ResultTest.run(w, 0, 0, 99, 0, 1, 1, 2, 2, 3);
         CHECK.due("of one course", 32.0 / 3.0, () -> w.meanTime(1));
+        ControlWood z = ResultTest.wood();
+        ResultTest.run(z, 1, 0, 7);
+        CHECK.due("the first runner", 7.0, () -> z.meanTime(1));
         CHECK.due("of the other", 99.0, () -> w.meanTime(0));
         w.rule(1, 50);
         CHECK.due("below 0", -18.0 / 3.0, () -> w.meanTime(1));

@@ -70,9 +70,13 @@ public final class LandTest {
         w.add(0, 0);
         w.control(12, 1, 6);
         w.fork(0, 0, 1);
+        w.voided(0, 0, true);
         w.voided(0, 1, true);
         w.runner(0, 0);
+        w.branches(0, 1);
         w.start(0, 9);
+        w.punch(0, 1, 9);
+        w.finish(0, 9);
         w.rule(0, 50);
         w.fix(0, 7, 8);
         w.team(0, 1);
@@ -83,9 +87,12 @@ public final class LandTest {
         CHECK.due("never stolen", -1, () -> w.stolen(0, 7));
         CHECK.due("course", 0, () -> w.course(24));
         w.add(0, 0);
+        CHECK.due("no leg is void", false, () -> w.voided(0, 0, false));
         CHECK.due("no leg is void", false, () -> w.voided(0, 1, false));
         CHECK.due("runner", 0, () -> w.runner(0, 0));
         CHECK.fails(ARGUMENT, "no fork", () -> w.branches(0, 1));
+        CHECK.due("no branches", 0, () -> w.branches(0, 0));
+        CHECK.due("no punches", 7L, () -> w.checksum());
         CHECK.due("no start", -1, () -> w.start(0, 9));
         CHECK.due("no ruling", 9, () -> w.rule(0, -1));
         CHECK.due("not dead", 1, () -> w.punch(0, 0, 50));

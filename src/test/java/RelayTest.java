@@ -18,6 +18,7 @@ public final class RelayTest {
         fairWays();
         changeover();
         chase();
+        chaseInOrder();
         chaseRefuses();
         score();
         scoreByLand();
@@ -65,9 +66,22 @@ public final class RelayTest {
         CHECK.due("another course", 0, () -> w.team(1, 1));
         CHECK.fails(INDEX, "the others are gone", () -> w.runs(1, 0, 0));
         CHECK.due("and back", 0, () -> w.team(0, 2));
-        CHECK.due("no branches are left", 0, () -> w.runs(0, 0, 3));
-        CHECK.due("no branches are left", 0, () -> w.runs(0, 1, 3));
         CHECK.fails(INDEX, "two runs", () -> w.runs(0, 2, 0));
+        noBranchesAreLeft();
+    }
+
+    private static void noBranchesAreLeft() {
+        ControlWood w = wood();
+        for (int round = 0; round < 2; round++) {
+            w.team(1, 1);
+            for (int team = 0; team < 6; team++) {
+                int number = team;
+                w.team(0, 3);
+                CHECK.due("first run", 0, () -> w.runs(number, 0, 1));
+                CHECK.due("second run", 0, () -> w.runs(number, 1, 2));
+                CHECK.due("third run", 0, () -> w.runs(number, 2, 3));
+            }
+        }
     }
 
     private static void runs() {
@@ -216,14 +230,15 @@ public final class RelayTest {
             z.team(2, 3);
         }
         CHECK.due("four teams of three runs", 1 + 81 + 81 + 1, () -> z.fairWays());
-        z.team(2, 3);
-        CHECK.refuses(z, UNSUPPORTED, "15 bits", () -> z.fairWays());
+        z.team(2, 1);
+        CHECK.refuses(z, UNSUPPORTED, "13 bits", () -> z.fairWays());
     }
 
     private static void changeover() {
         ControlWood w = new ControlWood();
         CHECK.due("first run", 100, () -> w.changeover(0, 100, 50, 20));
         CHECK.due("second run", 150, () -> w.changeover(1, 100, 50, -1));
+        CHECK.due("from 0 on", 7, () -> w.changeover(1, 0, 7, -1));
         CHECK.due("third run", 200, () -> w.changeover(2, 100, 50, -1));
         CHECK.due("restart of the third", 160, () -> w.changeover(2, 100, 50, 160));
         CHECK.due("restart of both", 120, () -> w.changeover(2, 100, 50, 120));
@@ -278,6 +293,41 @@ public final class RelayTest {
         CHECK.fails(ARGUMENT, "no punch so late", () -> z.punch(3, 0, 99999));
         CHECK.fails(ARGUMENT, "no punch above 99999", () -> z.punch(3, 0, 200001));
         CHECK.fails(ARGUMENT, "no finish above 99999", () -> z.finish(3, 200001));
+    }
+
+    /** Of the new ones the draw tells the clubs, so it must go as with those entered one by one. */
+    private static void chaseInOrder() {
+        int[] finishes = {900, 500, 700, 500, 300, 900};
+        int[] clubs = {1, 2, 1, 3, 1, 2};
+        int[] order = {4, 1, 3, 2, 0, 5};
+        for (int seed = 0; seed < 40; seed++) {
+            ControlWood w = wood();
+            ControlWood z = wood();
+            for (int i = 0; i < 6; i++) {
+                finished(w, clubs[i], finishes[i]);
+                finished(z, clubs[i], finishes[i]);
+            }
+            CHECK.due("six", 6, () -> w.chase(1, 0, 50));
+            for (int i = 0; i < 6; i++) {
+                int runner = 6 + i;
+                z.runner(clubs[order[i]], 0);
+                int due = 50 + finishes[order[i]] - 300;
+                CHECK.due("start of " + runner, due, () -> w.startOf(runner));
+            }
+            w.draw(0, seed, 0, 1);
+            z.draw(0, seed, 0, 1);
+            for (int runner = 6; runner < 12; runner++) {
+                int one = runner;
+                int due = z.startOf(runner);
+                CHECK.due("drawn with " + seed + ", start of " + runner, due, () -> w.startOf(one));
+            }
+        }
+    }
+
+    private static void finished(ControlWood w, int club, int finish) {
+        int runner = w.runner(club, 1);
+        w.start(runner, 0);
+        w.finish(runner, finish);
     }
 
     private static void chaseRefuses() {
@@ -374,6 +424,7 @@ public final class RelayTest {
         CHECK.due("two", 30, () -> w.late(50, 120, 10));
         CHECK.due("at least 0", 0, () -> w.late(50, 9999, 99));
         CHECK.due("all of them", 9999 - 167 * 59, () -> w.late(9999, 9999, 59));
+        CHECK.due("none to lose", 0, () -> w.late(0, 0, 0));
         CHECK.due("nothing for it", 9999, () -> w.late(9999, 9999, 0));
         int[][] wrong = {{-1, 0, 0}, {10000, 0, 0}, {0, -1, 0}, {0, 10000, 0}, {0, 0, -1}, {0, 0, 100}};
         for (int[] one : wrong) {
