@@ -143,6 +143,8 @@ public final class EdgeCourseTest {
         NEW.due("10: the last cell", 0, w -> w.course(24));
         NEW.refusedOutside("10: cell", Edge.INDEX, 0, 24, (w, cell) -> w.course(cell));
         NEW.with(w -> w.cell(3, 0, 0, 'w')).due("10: water is not ruled out", 0, w -> w.course(3));
+        Edge last = NEW.with(w -> w.control(0, 0, 0)).with(w -> w.course(24)).with(w -> w.add(0, 0));
+        last.due("10: the start is the finish, too", 160, w -> w.lengthOf(0));
         Edge five = NEW.with(w -> {
             for (int i = 0; i < 5; i++) {
                 w.course(0);

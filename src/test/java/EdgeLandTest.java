@@ -11,6 +11,7 @@ public final class EdgeLandTest {
         promise2Sizes();
         promise2AllGone();
         promise2MostFitAgain();
+        promise2NothingStays();
         promise3();
         promise3Order();
         promise3Costs();
@@ -192,6 +193,41 @@ public final class EdgeLandTest {
         }
     }
 
+    /** Numbers that are given anew bring nothing of those that had them ahead of the land. */
+    private static void promise2NothingStays() {
+        boolean isAsNew = Probe.of(() -> {
+            ControlWood w = used();
+            w.start(1, 3);
+            w.punch(1, 0, 10);
+            w.finish(1, 20);
+            w.rule(1, 9);
+            w.land(5, 5);
+            begun(w);
+            return w;
+        }).equals(Probe.of(() -> {
+            ControlWood w = new ControlWood();
+            begun(w);
+            return w;
+        }));
+        CHECK.holds("2: with the same calls behind a land all is as in a new object", isAsNew);
+    }
+
+    private static void begun(ControlWood w) {
+        for (int i = 0; i < 4; i++) {
+            w.control(6 * i, 0, 9);
+        }
+        for (int course = 0; course < 2; course++) {
+            w.course(24);
+            w.add(course, 0);
+            w.add(course, 1);
+        }
+        w.fork(0, 1, 2);
+        for (int i = 0; i < 3; i++) {
+            w.runner(0, 0);
+        }
+        w.team(0, 2);
+    }
+
     private static ControlWood full() {
         ControlWood w = new ControlWood();
         fill(w);
@@ -232,6 +268,7 @@ public final class EdgeLandTest {
         Edge used = NEW.with(w -> w.cell(12, 3, 4, 'x'));
         for (char kind : NO_KINDS) {
             used.refused("3: kind " + (int) kind, Edge.ARGUMENT, w -> w.cell(12, 5, 6, kind));
+            NEW.refused("3: kind " + (int) kind, Edge.ARGUMENT, w -> w.cell(12, 0, 0, kind));
         }
         used.refused("3: growth 10", Edge.ARGUMENT, w -> w.cell(12, 10, 6, 'w'));
         used.refused("3: height 10", Edge.ARGUMENT, w -> w.cell(12, 5, 10, 'w'));
@@ -301,6 +338,7 @@ public final class EdgeLandTest {
         Edge used = NEW.with(w -> w.show(12, 3, 'x'));
         for (char kind : NO_KINDS) {
             used.refused("5: kind " + (int) kind, Edge.ARGUMENT, w -> w.show(12, 5, kind));
+            NEW.refused("5: kind " + (int) kind, Edge.ARGUMENT, w -> w.show(12, 0, kind));
         }
         used.refused("5: growth 10", Edge.ARGUMENT, w -> w.show(12, 10, '.'));
         NEW.refused("5: no such cell ahead of growth", Edge.INDEX, w -> w.show(25, 10, '.'));
@@ -409,6 +447,8 @@ public final class EdgeLandTest {
         shut.due("7: out of water on the map", 20, w -> w.misled(5, 11));
         shut.refused("7: into water on the map", Edge.NO_SUCH, w -> w.misled(6, 5));
         shut.refused("7: into what is out of bounds on the map", Edge.NO_SUCH, w -> w.misled(6, 1));
+        Edge tie = NEW.with(w -> w.cell(1, 9, 0, '.')).with(w -> w.show(1, 0, 'x'));
+        tie.due("7: not by what the map shuts, if it were as near", 20, w -> w.misled(6, 2));
     }
 
     private static void promise7FirstByItsCells() {

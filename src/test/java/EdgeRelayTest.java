@@ -78,6 +78,18 @@ public final class EdgeRelayTest {
         Edge back = TWO.with(w -> w.team(0, 1)).with(w -> w.runs(0, 0, 3)).with(w -> w.team(1, 1)).with(w -> w.team(0, 1));
         back.due("34: branches are gone with the relay", 0, w -> w.runs(0, 0, 3));
         back.refused("34: teams are gone with the relay", Edge.INDEX, w -> w.runs(1, 0, 0));
+        Edge most = SIX.with(w -> {
+            for (int i = 0; i < 18; i++) {
+                w.runs(i / 3, i % 3, 3);
+            }
+            w.team(1, 1);
+            teams(w, 0, 3, 3, 3, 3, 3, 3);
+        });
+        for (int i = 0; i < 18; i++) {
+            int team = i / 3;
+            int run = i % 3;
+            most.due("34: branches are gone with the relay, team " + team, 0, w -> w.runs(team, run, 0));
+        }
         Edge told = TWO.with(w -> w.team(0, 1)).with(w -> w.runs(0, 0, 3));
         told.refused("34: a refused one leaves the relay, no such course", Edge.INDEX, w -> w.team(2, 1));
         told.refused("34: a refused one leaves the relay, not so many", Edge.ARGUMENT, w -> w.team(1, 4));
@@ -223,6 +235,13 @@ public final class EdgeRelayTest {
         two.due("37: 4096, two teams of three runs, forks apart", 400, w -> w.fairWays());
         Edge six = TWO.with(w -> teams(w, 0, 1, 1, 1, 1, 1, 1));
         six.due("37: 4096, six teams of one run", 4, w -> w.fairWays());
+        Edge alike = TWO.with(w -> w.control(4, 1, 0)).with(w -> {
+            w.course(0);
+            w.add(2, 0);
+            w.fork(2, 0, 4);
+            teams(w, 2, 1, 1);
+        });
+        alike.due("37: both branches in one cell, all ways", 4, w -> w.fairWays());
         Edge told = two.with(w -> w.runs(0, 2, 3)).with(w -> w.fairWays());
         told.due("37: the branches stay", 3, w -> w.runs(0, 2, 3));
         told.due("37: so it is as it was", false, w -> w.isFair());

@@ -194,6 +194,11 @@ public final class EdgeRunnerTest {
         out.refused("18: the first start ahead of it", Edge.ARGUMENT, w -> w.draw(0, 0, -1, 0));
         out.refused("18: the interval ahead of it", Edge.ARGUMENT, w -> w.draw(0, 0, 0, 1000));
         out.due("18: on the other course nobody has", 1, w -> w.draw(1, 0, 0, 0));
+        Edge first = TWO.with(w -> w.runner(0, 0)).with(w -> w.start(0, 5)).with(w -> w.punch(0, 3, 5));
+        first.refused("18: the first runner has a punch", Edge.UNSUPPORTED, w -> w.draw(0, 0, 0, 0));
+        Edge last = TWELVE.with(w -> w.start(11, 5)).with(w -> w.punch(11, 3, 5));
+        last.refused("18: the last runner has a punch", Edge.UNSUPPORTED, w -> w.draw(0, 0, 0, 0));
+        last.due("18: on the other course nobody has", 11, w -> w.draw(1, 0, 0, 0));
         out.with(w -> w.finish(1, 5)).due("18: a punch with a finish", 1, w -> w.draw(0, 0, 0, 0));
         Edge lost = TWO.with(w -> {
             w.runner(0, 0);

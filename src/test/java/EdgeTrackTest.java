@@ -71,6 +71,11 @@ public final class EdgeTrackTest {
         }
         twelve.refused("39: there are 12", Edge.STATE, w -> w.chase(1, 0, 0));
         twelve.due("39: there are 12, and nobody would come", 0, w -> w.chase(0, 1, 0));
+        Edge mixed = WOOD.with(w -> times(w, 30, 60, 10, 50, 20, 40)).with(w -> w.chase(1, 0, 100));
+        for (int i = 0; i < 6; i++) {
+            int place = i;
+            mixed.due("39: the start of place " + i, 100 + 10 * i, w -> w.startOf(6 + place));
+        }
         Edge seven = six.with(w -> w.runner(0, 0));
         seven.refused("39: there would be 13", Edge.STATE, w -> w.chase(1, 0, 0));
         Edge all = WOOD.with(w -> times(w, 1, 2, 3, 4, 5, 6, 7, 8, 9, 10, 11, 12));
@@ -193,6 +198,9 @@ public final class EdgeTrackTest {
         two.due("40: at the most pace, 399 each way", 5, w -> w.score(0, 798, 9999));
         two.due("40: at the least pace", 8, w -> w.score(0, 0, 1));
         two.due("40: each but once", 8, w -> w.score(0, 9999, 1000));
+        Edge round = NEW.with(w -> w.control(24, 0, 1)).with(w -> w.control(4, 0, 3)).with(w -> w.control(20, 0, 5));
+        round.due("40: at the limit, round about", 9, w -> w.score(0, 160, 1000));
+        round.due("40: a second short", 5, w -> w.score(0, 159, 1000));
         Edge alike = NEW.with(w -> w.control(4, 0, 3)).with(w -> w.control(4, 1, 5));
         alike.due("40: two in one cell are unlike", 8, w -> w.score(0, 80, 1000));
         Edge steep = NEW.with(w -> w.control(1, 0, 3)).with(w -> w.cell(1, 9, 9, '.'));
@@ -431,6 +439,10 @@ public final class EdgeTrackTest {
         Edge lasting = tracked(3, 0, 3, MOST);
         lasting.with(w -> w.cell(4, 0, 0, 'w')).due("43: no way to it", false, w -> w.mayHave(0, 0));
         lasting.with(w -> w.cell(3, 0, 0, 'w')).due("43: no way from it", false, w -> w.mayHave(0, 0));
+        Edge island = tracked(0, 0, 3, MOST).with(w -> w.cell(1, 0, 0, 'w')).with(w -> w.cell(5, 0, 0, 'w'));
+        island.due("43: no way from the first fix to it", false, w -> w.mayHave(0, 0));
+        Edge back = tracked(3, 0, 0, MOST).with(w -> w.cell(1, 0, 0, 'w')).with(w -> w.cell(5, 0, 0, 'w'));
+        back.due("43: no way from it to the second fix", false, w -> w.mayHave(0, 0));
         Edge leaving = tracked(3, 0, 2, 30).with(w -> w.cell(3, 0, 0, 'w'));
         leaving.due("43: out of water, but round about", false, w -> w.mayHave(0, 0));
         Edge time = tracked(3, 0, 2, 50).with(w -> w.cell(3, 0, 0, 'w'));

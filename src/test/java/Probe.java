@@ -38,6 +38,9 @@ final class Probe {
         cut(parts, toldOfRunners());
         cut(parts, drawn());
         cut(parts, deadSeconds());
+        for (int first = 0; first < NUMBERS; first += 3) {
+            cut(parts, found(first, Math.min(NUMBERS, first + 3)));
+        }
         cut(parts, relayAndNumbers());
         return parts;
     }
@@ -169,6 +172,37 @@ final class Probe {
             for (int seconds : new int[] {0, 5, 10, 999, 99999}) {
                 calls.add(w -> w.punch(runner, 0, seconds));
                 calls.add(w -> w.punch(runner, 1, seconds));
+            }
+        }
+        return calls;
+    }
+
+    /** Forks tell by their bits how many they are, and by the controls found, where all are excused, which they are. */
+    private static List<Edge.Call> found(int first, int behind) {
+        List<Edge.Call> calls = new ArrayList<>();
+        for (int i = 0; i < COURSES; i++) {
+            int course = i;
+            calls.add(w -> w.runner(0, course));
+        }
+        for (int i = 0; i < NUMBERS; i++) {
+            int control = i;
+            calls.add(w -> w.stolen(control, 0));
+        }
+        for (int i = first; i < behind; i++) {
+            int runner = i;
+            for (int k = 1; k < LEGS; k++) {
+                int bits = (1 << k) - 1;
+                calls.add(w -> w.branches(runner, bits));
+            }
+            calls.add(w -> w.start(runner, 0));
+            for (int k = 0; k < NUMBERS; k++) {
+                int control = k;
+                calls.add(w -> w.punch(runner, control, control));
+            }
+            calls.add(w -> w.finish(runner, 99));
+            for (int k = 0; k < LEGS; k++) {
+                int leg = k;
+                calls.add(w -> w.split(runner, leg));
             }
         }
         return calls;
