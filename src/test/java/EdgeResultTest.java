@@ -127,6 +127,8 @@ public final class EdgeResultTest {
         NINE.with(ten(1, 2, 3, 4, 5, 6, 7, 8, 9, 10)).due("26: nine found", 'o', w -> w.state(0));
         Edge eight = NINE.with(run(0, 0, 9, 0, 1, 1, 1, 2, 1, 3, 1, 4, 1, 5, 1, 6, 1, 7, 1));
         eight.due("26: the ninth is missing", 'm', w -> w.state(0));
+        Edge behind = WOOD.with(w -> w.stolen(1, 0)).with(run(0, 0, 90, 2, 5, 0, 10));
+        behind.due("26: behind the last found, also with one excused between", 'm', w -> w.state(0));
         Edge lost = WOOD.with(w -> w.dead(1, 0, 99)).with(run(0, 0, 9, 0, 1, 1, 2, 2, 3));
         lost.due("26: one that was not kept is missing", 'm', w -> w.state(0));
     }
