@@ -25,17 +25,6 @@ final class Check {
         }
     }
 
-    /** As above, and nothing that can be asked of the object may have changed. */
-    void refuses(ControlWood wood, Class<? extends RuntimeException> want, String call, Call done) {
-        String before = Answers.of(wood);
-        fails(want, call, done);
-        String after = Answers.of(wood);
-        checks++;
-        if (!before.equals(after)) {
-            report(call, "changed the object", "changes nothing");
-        }
-    }
-
     void holds(String what, boolean is) {
         checks++;
         if (!is) {

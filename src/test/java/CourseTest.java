@@ -29,22 +29,22 @@ public final class CourseTest {
         CHECK.due("first", 0, () -> w.control(0, 0, 0));
         CHECK.due("water on the map alone", 1, () -> w.control(4, 3, 99));
         CHECK.due("a cell that has one", 2, () -> w.control(4, 3, 99));
-        CHECK.refuses(w, INDEX, "cell 25", () -> w.control(25, 4, 100));
-        CHECK.refuses(w, INDEX, "cell -1", () -> w.control(-1, 0, 0));
-        CHECK.refuses(w, ARGUMENT, "site 4, in water", () -> w.control(3, 4, 0));
-        CHECK.refuses(w, ARGUMENT, "site -1", () -> w.control(0, -1, 0));
-        CHECK.refuses(w, ARGUMENT, "points 100", () -> w.control(0, 0, 100));
-        CHECK.refuses(w, ARGUMENT, "points -1", () -> w.control(0, 0, -1));
-        CHECK.refuses(w, UNSUPPORTED, "water", () -> w.control(3, 0, 0));
+        CHECK.fails(INDEX, "cell 25", () -> w.control(25, 4, 100));
+        CHECK.fails(INDEX, "cell -1", () -> w.control(-1, 0, 0));
+        CHECK.fails(ARGUMENT, "site 4, in water", () -> w.control(3, 4, 0));
+        CHECK.fails(ARGUMENT, "site -1", () -> w.control(0, -1, 0));
+        CHECK.fails(ARGUMENT, "points 100", () -> w.control(0, 0, 100));
+        CHECK.fails(ARGUMENT, "points -1", () -> w.control(0, 0, -1));
+        CHECK.fails(UNSUPPORTED, "water", () -> w.control(3, 0, 0));
         w.cell(5, 0, 0, 'x');
         CHECK.due("out of bounds", 3, () -> w.control(5, 0, 0));
         for (int i = 4; i < 12; i++) {
             int number = i;
             CHECK.due("control " + i, number, () -> w.control(number, number % 4, number));
         }
-        CHECK.refuses(w, UNSUPPORTED, "water, when there are 12", () -> w.control(3, 0, 0));
-        CHECK.refuses(w, STATE, "a thirteenth", () -> w.control(0, 0, 0));
-        CHECK.refuses(w, ARGUMENT, "a thirteenth of site 4", () -> w.control(0, 4, 0));
+        CHECK.fails(UNSUPPORTED, "water, when there are 12", () -> w.control(3, 0, 0));
+        CHECK.fails(STATE, "a thirteenth", () -> w.control(0, 0, 0));
+        CHECK.fails(ARGUMENT, "a thirteenth of site 4", () -> w.control(0, 4, 0));
     }
 
     private static void areNear() {
@@ -74,14 +74,14 @@ public final class CourseTest {
 
     private static void course() {
         ControlWood w = new ControlWood();
-        CHECK.refuses(w, INDEX, "cell 25", () -> w.course(25));
-        CHECK.refuses(w, INDEX, "cell -1", () -> w.course(-1));
+        CHECK.fails(INDEX, "cell 25", () -> w.course(25));
+        CHECK.fails(INDEX, "cell -1", () -> w.course(-1));
         for (int i = 0; i < 6; i++) {
             int number = i;
             CHECK.due("course " + i, number, () -> w.course(24 - number));
         }
-        CHECK.refuses(w, STATE, "a seventh", () -> w.course(0));
-        CHECK.refuses(w, INDEX, "a seventh nowhere", () -> w.course(25));
+        CHECK.fails(STATE, "a seventh", () -> w.course(0));
+        CHECK.fails(INDEX, "a seventh nowhere", () -> w.course(25));
         CHECK.due("one leg", false, () -> w.voided(5, 0, true));
         CHECK.fails(INDEX, "no other", () -> w.voided(5, 1, true));
     }
@@ -97,18 +97,18 @@ public final class CourseTest {
         CHECK.due("second", 2, () -> w.add(0, 0));
         CHECK.due("again", 3, () -> w.add(0, 1));
         CHECK.due("in this order", 120, () -> w.lengthOf(0));
-        CHECK.refuses(w, INDEX, "course 2", () -> w.add(2, 0));
-        CHECK.refuses(w, INDEX, "course -1", () -> w.add(-1, 0));
-        CHECK.refuses(w, INDEX, "control 2", () -> w.add(0, 2));
-        CHECK.refuses(w, INDEX, "control -1", () -> w.add(0, -1));
+        CHECK.fails(INDEX, "course 2", () -> w.add(2, 0));
+        CHECK.fails(INDEX, "course -1", () -> w.add(-1, 0));
+        CHECK.fails(INDEX, "control 2", () -> w.add(0, 2));
+        CHECK.fails(INDEX, "control -1", () -> w.add(0, -1));
         for (int i = 4; i < 10; i++) {
             int count = i;
             CHECK.due("control " + i, count, () -> w.add(0, 0));
         }
-        CHECK.refuses(w, STATE, "a tenth", () -> w.add(0, 0));
+        CHECK.fails(STATE, "a tenth", () -> w.add(0, 0));
         w.runner(0, 0);
-        CHECK.refuses(w, UNSUPPORTED, "somebody is entered", () -> w.add(0, 0));
-        CHECK.refuses(w, INDEX, "control 2, somebody is entered", () -> w.add(0, 2));
+        CHECK.fails(UNSUPPORTED, "somebody is entered", () -> w.add(0, 0));
+        CHECK.fails(INDEX, "control 2, somebody is entered", () -> w.add(0, 2));
         CHECK.due("nobody for the other", 1, () -> w.add(1, 0));
         w.team(1, 1);
         CHECK.due("a team is nobody", 2, () -> w.add(1, 1));
@@ -142,18 +142,18 @@ public final class CourseTest {
         CHECK.due("two", 2, () -> w.fork(0, 0, 3));
         CHECK.due("in place of it", 2, () -> w.fork(0, 0, 1));
         CHECK.due("all", 3, () -> w.fork(0, 1, 3));
-        CHECK.refuses(w, INDEX, "course 2", () -> w.fork(2, 0, 3));
-        CHECK.refuses(w, INDEX, "course -1", () -> w.fork(-1, 0, 3));
-        CHECK.refuses(w, INDEX, "place 3", () -> w.fork(0, 3, 3));
-        CHECK.refuses(w, INDEX, "place -1", () -> w.fork(0, -1, 3));
-        CHECK.refuses(w, INDEX, "no place", () -> w.fork(1, 0, 3));
-        CHECK.refuses(w, INDEX, "control 4", () -> w.fork(0, 0, 4));
-        CHECK.refuses(w, INDEX, "control -1", () -> w.fork(0, 0, -1));
-        CHECK.refuses(w, ARGUMENT, "its control", () -> w.fork(0, 0, 0));
+        CHECK.fails(INDEX, "course 2", () -> w.fork(2, 0, 3));
+        CHECK.fails(INDEX, "course -1", () -> w.fork(-1, 0, 3));
+        CHECK.fails(INDEX, "place 3", () -> w.fork(0, 3, 3));
+        CHECK.fails(INDEX, "place -1", () -> w.fork(0, -1, 3));
+        CHECK.fails(INDEX, "no place", () -> w.fork(1, 0, 3));
+        CHECK.fails(INDEX, "control 4", () -> w.fork(0, 0, 4));
+        CHECK.fails(INDEX, "control -1", () -> w.fork(0, 0, -1));
+        CHECK.fails(ARGUMENT, "its control", () -> w.fork(0, 0, 0));
         w.runner(0, 0);
-        CHECK.refuses(w, UNSUPPORTED, "somebody is entered", () -> w.fork(0, 0, 3));
-        CHECK.refuses(w, UNSUPPORTED, "its control, somebody is entered", () -> w.fork(0, 0, 0));
-        CHECK.refuses(w, INDEX, "place 3, somebody is entered", () -> w.fork(0, 3, 0));
+        CHECK.fails(UNSUPPORTED, "somebody is entered", () -> w.fork(0, 0, 3));
+        CHECK.fails(UNSUPPORTED, "its control, somebody is entered", () -> w.fork(0, 0, 0));
+        CHECK.fails(INDEX, "place 3, somebody is entered", () -> w.fork(0, 3, 0));
         w.add(1, 0);
         w.add(1, 1);
         CHECK.due("nobody for the other", 1, () -> w.fork(1, 1, 0));

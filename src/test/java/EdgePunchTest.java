@@ -81,6 +81,7 @@ public final class EdgePunchTest {
         nineteen.due("20: the twentieth", 20, w -> w.punch(0, 3, 100));
         Edge twenty = STARTED.with(w -> punches(w, 20));
         twenty.refused("20: 20 are kept", Edge.STATE, w -> w.punch(0, 3, 100));
+        twenty.refused("20: 20 are kept, a later one", Edge.STATE, w -> w.punch(0, 2, 101));
         twenty.due("20: they are as many as are kept", 20, w -> w.dead(0, 0, MOST));
         twenty.with(w -> w.runner(0, 0)).with(w -> w.start(1, 0)).due("20: of another there are none", 1, w -> w.punch(1, 0, 0));
         Edge lost = STARTED.with(w -> w.dead(0, 0, MOST)).with(w -> punches(w, 25));

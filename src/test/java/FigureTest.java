@@ -14,7 +14,7 @@ public final class FigureTest {
 
     private static void okShare() {
         ControlWood w = ResultTest.wood();
-        CHECK.refuses(w, ARITHMETIC, "nobody", () -> w.okShare(1));
+        CHECK.fails(ARITHMETIC, "nobody", () -> w.okShare(1));
         w.runner(0, 1);
         CHECK.due("none", 0f, () -> w.okShare(1));
         ResultTest.run(w, 1, 0, 10);
@@ -30,9 +30,9 @@ public final class FigureTest {
 
     private static void meanTime() {
         ControlWood w = ResultTest.wood();
-        CHECK.refuses(w, ARITHMETIC, "nobody", () -> w.meanTime(1));
+        CHECK.fails(ARITHMETIC, "nobody", () -> w.meanTime(1));
         w.runner(0, 1);
-        CHECK.refuses(w, ARITHMETIC, "nobody is 'o'", () -> w.meanTime(1));
+        CHECK.fails(ARITHMETIC, "nobody is 'o'", () -> w.meanTime(1));
         ResultTest.run(w, 1, 0, 10);
         CHECK.due("one", 10.0, () -> w.meanTime(1));
         ResultTest.run(w, 1, 0, 11);

@@ -53,11 +53,11 @@ public final class LandTest {
         w.cell(5, 3, 2, 'x');
         int[][] wrong = {{2, 5}, {13, 5}, {5, 2}, {5, 13}, {0, 0}, {-3, 4}, {Integer.MIN_VALUE, 3}, {3, Integer.MAX_VALUE}};
         for (int[] one : wrong) {
-            CHECK.refuses(w, ARGUMENT, "land(" + one[0] + ", " + one[1] + ")", () -> w.land(one[0], one[1]));
+            CHECK.fails(ARGUMENT, "land(" + one[0] + ", " + one[1] + ")", () -> w.land(one[0], one[1]));
         }
     }
 
-    private static void landForgets() {
+    private static ControlWood landedAnew() {
         ControlWood w = new ControlWood();
         w.cell(3, 4, 5, 'x');
         w.cell(4, 4, 5, 'w');
@@ -81,7 +81,12 @@ public final class LandTest {
         w.fix(0, 7, 8);
         w.team(0, 1);
         w.land(5, 5);
-        CHECK.due("all is as at first", true, () -> Answers.of(w).equals(Answers.of(new ControlWood())));
+        return w;
+    }
+
+    private static void landForgets() {
+        CHECK.holds("all is as at first", Probe.of(LandTest::landedAnew).equals(Probe.of(ControlWood::new)));
+        ControlWood w = landedAnew();
         CHECK.due("the map, too", 0, () -> w.print());
         CHECK.due("control", 0, () -> w.control(0, 0, 5));
         CHECK.due("never stolen", -1, () -> w.stolen(0, 7));
@@ -109,15 +114,15 @@ public final class LandTest {
         CHECK.due("last cell", 0, () -> w.cell(24, 1, 0, '.'));
         CHECK.due("what it costs", 15, () -> w.cost(23, 24, false));
         CHECK.due("the map is as before", 10, () -> w.cost(23, 24, true));
-        CHECK.refuses(w, INDEX, "cell 25", () -> w.cell(25, 10, 0, '.'));
-        CHECK.refuses(w, INDEX, "cell -1", () -> w.cell(-1, 0, 0, '?'));
-        CHECK.refuses(w, INDEX, "cell max", () -> w.cell(Integer.MAX_VALUE, 0, 0, '.'));
-        CHECK.refuses(w, ARGUMENT, "growth 10", () -> w.cell(24, 10, 0, '.'));
-        CHECK.refuses(w, ARGUMENT, "growth -1", () -> w.cell(24, -1, 0, '.'));
-        CHECK.refuses(w, ARGUMENT, "height 10", () -> w.cell(24, 0, 10, '.'));
-        CHECK.refuses(w, ARGUMENT, "height -1", () -> w.cell(24, 0, -1, '.'));
-        CHECK.refuses(w, ARGUMENT, "kind W", () -> w.cell(24, 0, 0, 'W'));
-        CHECK.refuses(w, ARGUMENT, "kind o", () -> w.cell(24, 0, 0, 'o'));
+        CHECK.fails(INDEX, "cell 25", () -> w.cell(25, 10, 0, '.'));
+        CHECK.fails(INDEX, "cell -1", () -> w.cell(-1, 0, 0, '?'));
+        CHECK.fails(INDEX, "cell max", () -> w.cell(Integer.MAX_VALUE, 0, 0, '.'));
+        CHECK.fails(ARGUMENT, "growth 10", () -> w.cell(24, 10, 0, '.'));
+        CHECK.fails(ARGUMENT, "growth -1", () -> w.cell(24, -1, 0, '.'));
+        CHECK.fails(ARGUMENT, "height 10", () -> w.cell(24, 0, 10, '.'));
+        CHECK.fails(ARGUMENT, "height -1", () -> w.cell(24, 0, -1, '.'));
+        CHECK.fails(ARGUMENT, "kind W", () -> w.cell(24, 0, 0, 'W'));
+        CHECK.fails(ARGUMENT, "kind o", () -> w.cell(24, 0, 0, 'o'));
     }
 
     private static void print() {
@@ -144,11 +149,11 @@ public final class LandTest {
         CHECK.due("not on the land", 10, () -> w.cost(2, 7, false));
         CHECK.due("the land's growth", 0, () -> w.cell(7, 6, 0, '.'));
         CHECK.due("the map's growth", 4, () -> w.show(7, 4, '.'));
-        CHECK.refuses(w, INDEX, "cell 25", () -> w.show(25, 10, '.'));
-        CHECK.refuses(w, INDEX, "cell -1", () -> w.show(-1, 0, '.'));
-        CHECK.refuses(w, ARGUMENT, "growth 10", () -> w.show(7, 10, '.'));
-        CHECK.refuses(w, ARGUMENT, "growth -1", () -> w.show(7, -1, '.'));
-        CHECK.refuses(w, ARGUMENT, "kind", () -> w.show(7, 0, ' '));
+        CHECK.fails(INDEX, "cell 25", () -> w.show(25, 10, '.'));
+        CHECK.fails(INDEX, "cell -1", () -> w.show(-1, 0, '.'));
+        CHECK.fails(ARGUMENT, "growth 10", () -> w.show(7, 10, '.'));
+        CHECK.fails(ARGUMENT, "growth -1", () -> w.show(7, -1, '.'));
+        CHECK.fails(ARGUMENT, "kind", () -> w.show(7, 0, ' '));
     }
 
     private static void cost() {

@@ -51,18 +51,18 @@ public final class RelayTest {
         ControlWood w = wood();
         CHECK.due("first", 0, () -> w.team(0, 3));
         CHECK.due("second", 1, () -> w.team(0, 1));
-        CHECK.refuses(w, INDEX, "course 2", () -> w.team(2, 0));
-        CHECK.refuses(w, INDEX, "course -1", () -> w.team(-1, 1));
-        CHECK.refuses(w, ARGUMENT, "no runs", () -> w.team(0, 0));
-        CHECK.refuses(w, ARGUMENT, "4 runs", () -> w.team(0, 4));
-        CHECK.refuses(w, ARGUMENT, "4 runs on another course", () -> w.team(1, 4));
+        CHECK.fails(INDEX, "course 2", () -> w.team(2, 0));
+        CHECK.fails(INDEX, "course -1", () -> w.team(-1, 1));
+        CHECK.fails(ARGUMENT, "no runs", () -> w.team(0, 0));
+        CHECK.fails(ARGUMENT, "4 runs", () -> w.team(0, 4));
+        CHECK.fails(ARGUMENT, "4 runs on another course", () -> w.team(1, 4));
         CHECK.due("a refused one leaves the relay", 0, () -> w.runs(1, 0, 3));
         for (int i = 2; i < 6; i++) {
             int number = i;
             CHECK.due("team " + i, number, () -> w.team(0, 2));
         }
-        CHECK.refuses(w, STATE, "a seventh", () -> w.team(0, 1));
-        CHECK.refuses(w, ARGUMENT, "a seventh of 4 runs", () -> w.team(0, 4));
+        CHECK.fails(STATE, "a seventh", () -> w.team(0, 1));
+        CHECK.fails(ARGUMENT, "a seventh of 4 runs", () -> w.team(0, 4));
         CHECK.due("another course", 0, () -> w.team(1, 1));
         CHECK.fails(INDEX, "the others are gone", () -> w.runs(1, 0, 0));
         CHECK.due("and back", 0, () -> w.team(0, 2));
@@ -94,15 +94,15 @@ public final class RelayTest {
         CHECK.due("of another run", 0, () -> w.runs(1, 1, 1));
         CHECK.due("of another team", 0, () -> w.runs(0, 1, 2));
         CHECK.due("before", 1, () -> w.runs(1, 2, 0));
-        CHECK.refuses(w, INDEX, "team 2", () -> w.runs(2, 0, 4));
-        CHECK.refuses(w, INDEX, "team -1", () -> w.runs(-1, 0, 0));
-        CHECK.refuses(w, INDEX, "run 2 of two", () -> w.runs(0, 2, 4));
-        CHECK.refuses(w, INDEX, "run 3", () -> w.runs(1, 3, 0));
-        CHECK.refuses(w, INDEX, "run -1", () -> w.runs(1, -1, 0));
-        CHECK.refuses(w, ARGUMENT, "a third fork", () -> w.runs(0, 0, 4));
-        CHECK.refuses(w, ARGUMENT, "-1", () -> w.runs(0, 0, -1));
+        CHECK.fails(INDEX, "team 2", () -> w.runs(2, 0, 4));
+        CHECK.fails(INDEX, "team -1", () -> w.runs(-1, 0, 0));
+        CHECK.fails(INDEX, "run 2 of two", () -> w.runs(0, 2, 4));
+        CHECK.fails(INDEX, "run 3", () -> w.runs(1, 3, 0));
+        CHECK.fails(INDEX, "run -1", () -> w.runs(1, -1, 0));
+        CHECK.fails(ARGUMENT, "a third fork", () -> w.runs(0, 0, 4));
+        CHECK.fails(ARGUMENT, "-1", () -> w.runs(0, 0, -1));
         w.team(1, 1);
-        CHECK.refuses(w, ARGUMENT, "no fork", () -> w.runs(0, 0, 1));
+        CHECK.fails(ARGUMENT, "no fork", () -> w.runs(0, 0, 1));
         CHECK.due("none of none", 0, () -> w.runs(0, 0, 0));
     }
 
@@ -196,7 +196,7 @@ public final class RelayTest {
         w.team(0, 1);
         CHECK.due("12 bits, none fair", 0, () -> w.fairWays());
         w.team(0, 1);
-        CHECK.refuses(w, UNSUPPORTED, "14 bits", () -> w.fairWays());
+        CHECK.fails(UNSUPPORTED, "14 bits", () -> w.fairWays());
         w.team(1, 3);
         for (int i = 1; i < 6; i++) {
             CHECK.due("no forks", 1, () -> w.fairWays());
@@ -231,7 +231,7 @@ public final class RelayTest {
         }
         CHECK.due("four teams of three runs", 1 + 81 + 81 + 1, () -> z.fairWays());
         z.team(2, 1);
-        CHECK.refuses(z, UNSUPPORTED, "13 bits", () -> z.fairWays());
+        CHECK.fails(UNSUPPORTED, "13 bits", () -> z.fairWays());
     }
 
     private static void changeover() {
@@ -250,7 +250,7 @@ public final class RelayTest {
         int[][] wrong = {{-1, 0, 0, 0}, {3, 0, 0, 0}, {0, -1, 0, 0}, {0, 100000, 0, 0}, {0, 0, -1, 0},
             {0, 0, 100000, 0}, {0, 0, 0, -2}, {0, 0, 0, 100000}};
         for (int[] one : wrong) {
-            CHECK.refuses(w, ARGUMENT, "changeover", () -> w.changeover(one[0], one[1], one[2], one[3]));
+            CHECK.fails(ARGUMENT, "changeover", () -> w.changeover(one[0], one[1], one[2], one[3]));
         }
     }
 
@@ -332,12 +332,12 @@ public final class RelayTest {
 
     private static void chaseRefuses() {
         ControlWood w = wood();
-        CHECK.refuses(w, INDEX, "course 2", () -> w.chase(2, 0, -1));
-        CHECK.refuses(w, INDEX, "course -1", () -> w.chase(-1, 0, 0));
-        CHECK.refuses(w, INDEX, "other 2", () -> w.chase(0, 2, 0));
-        CHECK.refuses(w, INDEX, "other -1", () -> w.chase(0, -1, 0));
-        CHECK.refuses(w, ARGUMENT, "first -1", () -> w.chase(0, 1, -1));
-        CHECK.refuses(w, ARGUMENT, "first 10000", () -> w.chase(0, 1, 10000));
+        CHECK.fails(INDEX, "course 2", () -> w.chase(2, 0, -1));
+        CHECK.fails(INDEX, "course -1", () -> w.chase(-1, 0, 0));
+        CHECK.fails(INDEX, "other 2", () -> w.chase(0, 2, 0));
+        CHECK.fails(INDEX, "other -1", () -> w.chase(0, -1, 0));
+        CHECK.fails(ARGUMENT, "first -1", () -> w.chase(0, 1, -1));
+        CHECK.fails(ARGUMENT, "first 10000", () -> w.chase(0, 1, 10000));
         CHECK.due("nobody", 0, () -> w.chase(1, 0, 0));
         for (int i = 0; i < 7; i++) {
             int runner = w.runner(i, 1);
@@ -346,13 +346,13 @@ public final class RelayTest {
                 w.finish(runner, 100);
             }
         }
-        CHECK.refuses(w, STATE, "there would be 13", () -> w.chase(1, 0, 0));
-        CHECK.refuses(w, ARGUMENT, "there would be 13, first -1", () -> w.chase(1, 0, -1));
+        CHECK.fails(STATE, "there would be 13", () -> w.chase(1, 0, 0));
+        CHECK.fails(ARGUMENT, "there would be 13, first -1", () -> w.chase(1, 0, -1));
         w.cell(7, 0, 0, 'x');
         w.fix(0, 7, 7);
         CHECK.due("12 at last", 5, () -> w.chase(1, 0, 0));
         CHECK.due("nobody, with 12", 0, () -> w.chase(0, 1, 0));
-        CHECK.refuses(w, STATE, "full", () -> w.chase(1, 0, 0));
+        CHECK.fails(STATE, "full", () -> w.chase(1, 0, 0));
     }
 
     private static void score() {
@@ -370,11 +370,11 @@ public final class RelayTest {
         CHECK.due("at twice the pace", 40, () -> w.score(0, 60, 500));
         CHECK.due("on a control", 10, () -> w.score(2, 0, 9999));
         CHECK.due("no cost", 65, () -> w.score(24, 9999, 1));
-        CHECK.refuses(w, INDEX, "cell 25", () -> w.score(25, -1, 1));
-        CHECK.refuses(w, INDEX, "cell -1", () -> w.score(-1, 0, 1));
+        CHECK.fails(INDEX, "cell 25", () -> w.score(25, -1, 1));
+        CHECK.fails(INDEX, "cell -1", () -> w.score(-1, 0, 1));
         int[][] wrong = {{-1, 1}, {10000, 1}, {0, 0}, {0, 10000}, {0, -1}};
         for (int[] one : wrong) {
-            CHECK.refuses(w, ARGUMENT, "score", () -> w.score(0, one[0], one[1]));
+            CHECK.fails(ARGUMENT, "score", () -> w.score(0, one[0], one[1]));
         }
     }
 
@@ -428,35 +428,35 @@ public final class RelayTest {
         CHECK.due("nothing for it", 9999, () -> w.late(9999, 9999, 0));
         int[][] wrong = {{-1, 0, 0}, {10000, 0, 0}, {0, -1, 0}, {0, 10000, 0}, {0, 0, -1}, {0, 0, 100}};
         for (int[] one : wrong) {
-            CHECK.refuses(w, ARGUMENT, "late", () -> w.late(one[0], one[1], one[2]));
+            CHECK.fails(ARGUMENT, "late", () -> w.late(one[0], one[1], one[2]));
         }
     }
 
     private static void fix() {
         ControlWood w = wood();
         w.runner(0, 1);
-        CHECK.refuses(w, INDEX, "runner 1", () -> w.fix(1, 0, 0));
-        CHECK.refuses(w, INDEX, "runner -1", () -> w.fix(-1, 0, 0));
-        CHECK.refuses(w, INDEX, "cell 25", () -> w.fix(0, 25, -1));
-        CHECK.refuses(w, INDEX, "cell -1", () -> w.fix(0, -1, 0));
-        CHECK.refuses(w, ARGUMENT, "-1", () -> w.fix(0, 4, -1));
+        CHECK.fails(INDEX, "runner 1", () -> w.fix(1, 0, 0));
+        CHECK.fails(INDEX, "runner -1", () -> w.fix(-1, 0, 0));
+        CHECK.fails(INDEX, "cell 25", () -> w.fix(0, 25, -1));
+        CHECK.fails(INDEX, "cell -1", () -> w.fix(0, -1, 0));
+        CHECK.fails(ARGUMENT, "-1", () -> w.fix(0, 4, -1));
         CHECK.due("first", 1, () -> w.fix(0, 0, 0));
-        CHECK.refuses(w, ARGUMENT, "not above", () -> w.fix(0, 4, 0));
-        CHECK.refuses(w, ARGUMENT, "below", () -> w.fix(0, 4, -1));
+        CHECK.fails(ARGUMENT, "not above", () -> w.fix(0, 4, 0));
+        CHECK.fails(ARGUMENT, "below", () -> w.fix(0, 4, -1));
         for (int i = 2; i <= 11; i++) {
             int count = i;
             CHECK.due("fix " + i, count, () -> w.fix(0, 0, count));
         }
         CHECK.due("the last one", 12, () -> w.fix(0, 0, Integer.MAX_VALUE));
-        CHECK.refuses(w, ARGUMENT, "not above", () -> w.fix(0, 4, Integer.MAX_VALUE));
+        CHECK.fails(ARGUMENT, "not above", () -> w.fix(0, 4, Integer.MAX_VALUE));
         ControlWood z = wood();
         z.runner(0, 1);
         for (int i = 0; i < 12; i++) {
             z.fix(0, 0, i);
         }
-        CHECK.refuses(z, STATE, "there are 12", () -> z.fix(0, 4, 12));
-        CHECK.refuses(z, ARGUMENT, "there are 12, and not above", () -> z.fix(0, 4, 11));
-        CHECK.refuses(z, INDEX, "there are 12, cell 25", () -> z.fix(0, 25, 12));
+        CHECK.fails(STATE, "there are 12", () -> z.fix(0, 4, 12));
+        CHECK.fails(ARGUMENT, "there are 12, and not above", () -> z.fix(0, 4, 11));
+        CHECK.fails(INDEX, "there are 12, cell 25", () -> z.fix(0, 25, 12));
     }
 
     private static void mayHave() {

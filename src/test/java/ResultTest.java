@@ -57,7 +57,7 @@ public final class ResultTest {
         ControlWood w = wood();
         w.runner(0, 0);
         CHECK.due("no start", 'n', () -> w.state(0));
-        CHECK.refuses(w, NO_SUCH, "no time", () -> w.time(0));
+        CHECK.fails(NO_SUCH, "no time", () -> w.time(0));
         w.start(0, 10);
         CHECK.due("no finish", 'r', () -> w.state(0));
         CHECK.fails(NO_SUCH, "no time", () -> w.time(0));
@@ -70,7 +70,7 @@ public final class ResultTest {
         CHECK.due("time", 40, () -> w.time(0));
         run(w, 0, 0, 50, 0, 20, 1, 30);
         CHECK.due("one missing", 'm', () -> w.state(1));
-        CHECK.refuses(w, NO_SUCH, "no time", () -> w.time(1));
+        CHECK.fails(NO_SUCH, "no time", () -> w.time(1));
         CHECK.fails(NO_SUCH, "no split", () -> w.split(1, 0));
         CHECK.fails(NO_SUCH, "no place", () -> w.place(1));
         CHECK.fails(NO_SUCH, "no reference", () -> w.reference(1, 0));
@@ -407,7 +407,7 @@ public final class ResultTest {
         run(w, 1, 5, 5);
         CHECK.fails(NO_SUCH, "the time is 0", () -> w.points(5));
         CHECK.due("with a time of 0", 1000, () -> w.points(0));
-        CHECK.refuses(w, NO_SUCH, "not 'o'", () -> w.points(2));
+        CHECK.fails(NO_SUCH, "not 'o'", () -> w.points(2));
     }
 
     private static void pointsBelowZero() {

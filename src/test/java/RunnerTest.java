@@ -48,19 +48,19 @@ public final class RunnerTest {
         ControlWood w = wood();
         CHECK.due("first", 0, () -> w.runner(0, 0));
         CHECK.due("second", 1, () -> w.runner(9, 1));
-        CHECK.refuses(w, ARGUMENT, "club 10, course 2", () -> w.runner(10, 2));
-        CHECK.refuses(w, ARGUMENT, "club -1", () -> w.runner(-1, 0));
-        CHECK.refuses(w, INDEX, "course 2", () -> w.runner(0, 2));
-        CHECK.refuses(w, INDEX, "course -1", () -> w.runner(0, -1));
+        CHECK.fails(ARGUMENT, "club 10, course 2", () -> w.runner(10, 2));
+        CHECK.fails(ARGUMENT, "club -1", () -> w.runner(-1, 0));
+        CHECK.fails(INDEX, "course 2", () -> w.runner(0, 2));
+        CHECK.fails(INDEX, "course -1", () -> w.runner(0, -1));
         CHECK.due("without a start", 'n', () -> w.state(1));
         CHECK.due("branches at first", 0, () -> w.branches(0, 3));
         for (int i = 2; i < 12; i++) {
             int number = i;
             CHECK.due("runner " + i, number, () -> w.runner(3, 1));
         }
-        CHECK.refuses(w, STATE, "a thirteenth", () -> w.runner(0, 0));
-        CHECK.refuses(w, ARGUMENT, "a thirteenth of club 10", () -> w.runner(10, 0));
-        CHECK.refuses(w, INDEX, "a thirteenth on course 2", () -> w.runner(0, 2));
+        CHECK.fails(STATE, "a thirteenth", () -> w.runner(0, 0));
+        CHECK.fails(ARGUMENT, "a thirteenth of club 10", () -> w.runner(10, 0));
+        CHECK.fails(INDEX, "a thirteenth on course 2", () -> w.runner(0, 2));
     }
 
     private static void branches() {
@@ -69,12 +69,12 @@ public final class RunnerTest {
         w.runner(0, 1);
         CHECK.due("at first", 0, () -> w.branches(0, 3));
         CHECK.due("before", 3, () -> w.branches(0, 2));
-        CHECK.refuses(w, INDEX, "runner 2", () -> w.branches(2, 0));
-        CHECK.refuses(w, INDEX, "runner -1", () -> w.branches(-1, 9));
-        CHECK.refuses(w, ARGUMENT, "a third fork", () -> w.branches(0, 4));
-        CHECK.refuses(w, ARGUMENT, "-1", () -> w.branches(0, -1));
-        CHECK.refuses(w, ARGUMENT, "the highest bit", () -> w.branches(0, Integer.MIN_VALUE));
-        CHECK.refuses(w, ARGUMENT, "no fork", () -> w.branches(1, 1));
+        CHECK.fails(INDEX, "runner 2", () -> w.branches(2, 0));
+        CHECK.fails(INDEX, "runner -1", () -> w.branches(-1, 9));
+        CHECK.fails(ARGUMENT, "a third fork", () -> w.branches(0, 4));
+        CHECK.fails(ARGUMENT, "-1", () -> w.branches(0, -1));
+        CHECK.fails(ARGUMENT, "the highest bit", () -> w.branches(0, Integer.MIN_VALUE));
+        CHECK.fails(ARGUMENT, "no fork", () -> w.branches(1, 1));
         CHECK.due("none of none", 0, () -> w.branches(1, 0));
         w.start(0, 0);
         CHECK.due("with a start", 2, () -> w.branches(0, 1));
@@ -82,11 +82,11 @@ public final class RunnerTest {
         w.punch(0, 0, 5);
         CHECK.due("a lost punch is none", 1, () -> w.branches(0, 2));
         w.punch(0, 0, 6);
-        CHECK.refuses(w, UNSUPPORTED, "with a punch", () -> w.branches(0, 0));
-        CHECK.refuses(w, ARGUMENT, "a third fork, with a punch", () -> w.branches(0, 4));
+        CHECK.fails(UNSUPPORTED, "with a punch", () -> w.branches(0, 0));
+        CHECK.fails(ARGUMENT, "a third fork, with a punch", () -> w.branches(0, 4));
         w.start(1, 0);
         w.finish(1, 0);
-        CHECK.refuses(w, UNSUPPORTED, "with a finish", () -> w.branches(1, 0));
+        CHECK.fails(UNSUPPORTED, "with a finish", () -> w.branches(1, 0));
     }
 
     private static void start() {
@@ -101,38 +101,38 @@ public final class RunnerTest {
         CHECK.due("told", 7, () -> w.startOf(0));
         CHECK.fails(INDEX, "startOf(2)", () -> w.startOf(2));
         CHECK.fails(INDEX, "startOf(-1)", () -> w.startOf(-1));
-        CHECK.refuses(w, INDEX, "runner 2", () -> w.start(2, -1));
-        CHECK.refuses(w, INDEX, "runner -1", () -> w.start(-1, 0));
-        CHECK.refuses(w, ARGUMENT, "-1", () -> w.start(0, -1));
-        CHECK.refuses(w, ARGUMENT, "100000", () -> w.start(0, 100000));
+        CHECK.fails(INDEX, "runner 2", () -> w.start(2, -1));
+        CHECK.fails(INDEX, "runner -1", () -> w.start(-1, 0));
+        CHECK.fails(ARGUMENT, "-1", () -> w.start(0, -1));
+        CHECK.fails(ARGUMENT, "100000", () -> w.start(0, 100000));
         w.rule(0, 50);
         CHECK.due("the told one, not the ruled one", 7, () -> w.startOf(0));
         CHECK.due("the told one", 7, () -> w.start(0, 8));
         CHECK.due("a ruling stays", 50, () -> w.rule(0, 50));
         w.punch(0, 3, 8);
-        CHECK.refuses(w, UNSUPPORTED, "with a punch", () -> w.start(0, 0));
-        CHECK.refuses(w, ARGUMENT, "-1 with a punch", () -> w.start(0, -1));
+        CHECK.fails(UNSUPPORTED, "with a punch", () -> w.start(0, 0));
+        CHECK.fails(ARGUMENT, "-1 with a punch", () -> w.start(0, -1));
         w.start(1, 5);
         w.finish(1, 5);
-        CHECK.refuses(w, UNSUPPORTED, "with a finish", () -> w.start(1, 0));
+        CHECK.fails(UNSUPPORTED, "with a finish", () -> w.start(1, 0));
     }
 
     private static void drawRefuses() {
         ControlWood w = wood();
         w.runner(0, 0);
         w.start(0, 5);
-        CHECK.refuses(w, INDEX, "course 2", () -> w.draw(2, -1, 0, 0));
-        CHECK.refuses(w, INDEX, "course -1", () -> w.draw(-1, 0, 0, 0));
+        CHECK.fails(INDEX, "course 2", () -> w.draw(2, -1, 0, 0));
+        CHECK.fails(INDEX, "course -1", () -> w.draw(-1, 0, 0, 0));
         int[][] wrong = {{-1, 0, 0}, {100000, 0, 0}, {0, -1, 0}, {0, 10000, 0}, {0, 0, -1}, {0, 0, 1000}};
         for (int[] one : wrong) {
-            CHECK.refuses(w, ARGUMENT, "draw", () -> w.draw(0, one[0], one[1], one[2]));
+            CHECK.fails(ARGUMENT, "draw", () -> w.draw(0, one[0], one[1], one[2]));
         }
         CHECK.due("nobody", 0, () -> w.draw(1, 99999, 9999, 999));
         CHECK.due("one", 1, () -> w.draw(0, 99999, 9999, 999));
         CHECK.due("the first start", 9999, () -> w.startOf(0));
         w.punch(0, 0, 9999);
-        CHECK.refuses(w, UNSUPPORTED, "a punch without a finish", () -> w.draw(0, 0, 0, 0));
-        CHECK.refuses(w, ARGUMENT, "so, and seed -1", () -> w.draw(0, -1, 0, 0));
+        CHECK.fails(UNSUPPORTED, "a punch without a finish", () -> w.draw(0, 0, 0, 0));
+        CHECK.fails(ARGUMENT, "so, and seed -1", () -> w.draw(0, -1, 0, 0));
         CHECK.due("the other course", 0, () -> w.draw(1, 0, 0, 0));
         w.finish(0, 10000);
         CHECK.due("all have finished", 0, () -> w.draw(0, 0, 0, 0));
@@ -221,26 +221,26 @@ public final class RunnerTest {
     private static void punch() {
         ControlWood w = wood();
         w.runner(0, 0);
-        CHECK.refuses(w, UNSUPPORTED, "no start", () -> w.punch(0, 0, 5));
-        CHECK.refuses(w, UNSUPPORTED, "no start, seconds 100000", () -> w.punch(0, 0, 100000));
+        CHECK.fails(UNSUPPORTED, "no start", () -> w.punch(0, 0, 5));
+        CHECK.fails(UNSUPPORTED, "no start, seconds 100000", () -> w.punch(0, 0, 100000));
         w.start(0, 100);
-        CHECK.refuses(w, INDEX, "runner 1", () -> w.punch(1, 0, 100));
-        CHECK.refuses(w, INDEX, "runner -1", () -> w.punch(-1, 0, 100));
-        CHECK.refuses(w, INDEX, "control 4", () -> w.punch(0, 4, 100));
-        CHECK.refuses(w, INDEX, "control -1", () -> w.punch(0, -1, 100));
-        CHECK.refuses(w, ARGUMENT, "ahead of the start", () -> w.punch(0, 0, 99));
+        CHECK.fails(INDEX, "runner 1", () -> w.punch(1, 0, 100));
+        CHECK.fails(INDEX, "runner -1", () -> w.punch(-1, 0, 100));
+        CHECK.fails(INDEX, "control 4", () -> w.punch(0, 4, 100));
+        CHECK.fails(INDEX, "control -1", () -> w.punch(0, -1, 100));
+        CHECK.fails(ARGUMENT, "ahead of the start", () -> w.punch(0, 0, 99));
         w.rule(0, 50);
-        CHECK.refuses(w, ARGUMENT, "ahead of the told start", () -> w.punch(0, 0, 99));
+        CHECK.fails(ARGUMENT, "ahead of the told start", () -> w.punch(0, 0, 99));
         w.rule(0, 150);
         CHECK.due("at the told start", 1, () -> w.punch(0, 0, 100));
         CHECK.due("any control", 2, () -> w.punch(0, 3, 120));
         CHECK.due("at the same second", 3, () -> w.punch(0, 3, 120));
-        CHECK.refuses(w, ARGUMENT, "ahead of the last", () -> w.punch(0, 0, 119));
-        CHECK.refuses(w, ARGUMENT, "100000", () -> w.punch(0, 0, 100000));
+        CHECK.fails(ARGUMENT, "ahead of the last", () -> w.punch(0, 0, 119));
+        CHECK.fails(ARGUMENT, "100000", () -> w.punch(0, 0, 100000));
         w.dead(2, 130, 140);
         CHECK.due("not kept", 3, () -> w.punch(0, 2, 140));
         CHECK.due("the last kept counts", 4, () -> w.punch(0, 2, 129));
-        CHECK.refuses(w, ARGUMENT, "dead, and too early", () -> w.punch(0, 2, 128));
+        CHECK.fails(ARGUMENT, "dead, and too early", () -> w.punch(0, 2, 128));
         long sum = 7;
         for (int number : new int[] {0, 100, 3, 120, 3, 120, 2, 129}) {
             sum = sum * 31 + number;
@@ -249,9 +249,9 @@ public final class RunnerTest {
         CHECK.due("checksum", due, () -> w.checksum());
         CHECK.due("the last second", 5, () -> w.punch(0, 2, 99999));
         w.finish(0, 99999);
-        CHECK.refuses(w, UNSUPPORTED, "has finished", () -> w.punch(0, 0, 99999));
-        CHECK.refuses(w, UNSUPPORTED, "has finished, too early", () -> w.punch(0, 0, 1));
-        CHECK.refuses(w, INDEX, "has finished, control 4", () -> w.punch(0, 4, 1));
+        CHECK.fails(UNSUPPORTED, "has finished", () -> w.punch(0, 0, 99999));
+        CHECK.fails(UNSUPPORTED, "has finished, too early", () -> w.punch(0, 0, 1));
+        CHECK.fails(INDEX, "has finished, control 4", () -> w.punch(0, 4, 1));
     }
 
     private static void punchLimit() {
@@ -264,29 +264,29 @@ public final class RunnerTest {
             CHECK.due("not kept", count - 1, () -> w.punch(0, 1, count));
             CHECK.due("kept", count, () -> w.punch(0, 0, count));
         }
-        CHECK.refuses(w, STATE, "20 are kept", () -> w.punch(0, 0, 21));
-        CHECK.refuses(w, STATE, "20 are kept, and it is dead", () -> w.punch(0, 1, 21));
-        CHECK.refuses(w, ARGUMENT, "20 are kept, too early", () -> w.punch(0, 0, 19));
+        CHECK.fails(STATE, "20 are kept", () -> w.punch(0, 0, 21));
+        CHECK.fails(STATE, "20 are kept, and it is dead", () -> w.punch(0, 1, 21));
+        CHECK.fails(ARGUMENT, "20 are kept, too early", () -> w.punch(0, 0, 19));
     }
 
     private static void finish() {
         ControlWood w = wood();
         w.runner(0, 1);
         w.runner(0, 1);
-        CHECK.refuses(w, INDEX, "runner 2", () -> w.finish(2, 0));
-        CHECK.refuses(w, INDEX, "runner -1", () -> w.finish(-1, 0));
-        CHECK.refuses(w, UNSUPPORTED, "no start", () -> w.finish(0, 100000));
+        CHECK.fails(INDEX, "runner 2", () -> w.finish(2, 0));
+        CHECK.fails(INDEX, "runner -1", () -> w.finish(-1, 0));
+        CHECK.fails(UNSUPPORTED, "no start", () -> w.finish(0, 100000));
         w.start(0, 100);
         w.rule(0, 30);
-        CHECK.refuses(w, ARGUMENT, "ahead of the start", () -> w.finish(0, 99));
+        CHECK.fails(ARGUMENT, "ahead of the start", () -> w.finish(0, 99));
         w.punch(0, 1, 200);
         w.dead(2, 0, 1000);
         w.punch(0, 2, 300);
-        CHECK.refuses(w, ARGUMENT, "ahead of the last punch", () -> w.finish(0, 199));
-        CHECK.refuses(w, ARGUMENT, "100000", () -> w.finish(0, 100000));
+        CHECK.fails(ARGUMENT, "ahead of the last punch", () -> w.finish(0, 199));
+        CHECK.fails(ARGUMENT, "100000", () -> w.finish(0, 100000));
         CHECK.due("since the told start", 100, () -> w.finish(0, 200));
-        CHECK.refuses(w, UNSUPPORTED, "once", () -> w.finish(0, 300));
-        CHECK.refuses(w, UNSUPPORTED, "once, too early", () -> w.finish(0, 1));
+        CHECK.fails(UNSUPPORTED, "once", () -> w.finish(0, 300));
+        CHECK.fails(UNSUPPORTED, "once, too early", () -> w.finish(0, 1));
         w.start(1, 99999);
         CHECK.due("at once", 0, () -> w.finish(1, 99999));
     }
@@ -312,11 +312,11 @@ public final class RunnerTest {
         CHECK.due("kept again", 4, () -> w.punch(1, 0, 41));
         CHECK.due("none there", 0, () -> w.dead(2, 0, Integer.MAX_VALUE));
         CHECK.due("all", 7, () -> w.dead(0, 0, Integer.MAX_VALUE));
-        CHECK.refuses(w, INDEX, "control 4", () -> w.dead(4, -1, 0));
-        CHECK.refuses(w, INDEX, "control -1", () -> w.dead(-1, 0, 0));
-        CHECK.refuses(w, ARGUMENT, "from -1", () -> w.dead(0, -1, 5));
-        CHECK.refuses(w, ARGUMENT, "to -1", () -> w.dead(0, 0, -1));
-        CHECK.refuses(w, ARGUMENT, "less", () -> w.dead(0, 6, 5));
+        CHECK.fails(INDEX, "control 4", () -> w.dead(4, -1, 0));
+        CHECK.fails(INDEX, "control -1", () -> w.dead(-1, 0, 0));
+        CHECK.fails(ARGUMENT, "from -1", () -> w.dead(0, -1, 5));
+        CHECK.fails(ARGUMENT, "to -1", () -> w.dead(0, 0, -1));
+        CHECK.fails(ARGUMENT, "less", () -> w.dead(0, 6, 5));
         CHECK.due("still dead", 4, () -> w.punch(1, 0, 999));
         CHECK.due("at 0", 0, () -> w.dead(3, 0, 0));
         w.runner(0, 1);
@@ -332,9 +332,9 @@ public final class RunnerTest {
         CHECK.due("before", Integer.MAX_VALUE, () -> w.stolen(0, -1));
         CHECK.due("never", -1, () -> w.stolen(0, 5));
         CHECK.due("another", -1, () -> w.stolen(1, 5));
-        CHECK.refuses(w, INDEX, "control 4", () -> w.stolen(4, -2));
-        CHECK.refuses(w, INDEX, "control -1", () -> w.stolen(-1, 0));
-        CHECK.refuses(w, ARGUMENT, "-2", () -> w.stolen(0, -2));
+        CHECK.fails(INDEX, "control 4", () -> w.stolen(4, -2));
+        CHECK.fails(INDEX, "control -1", () -> w.stolen(-1, 0));
+        CHECK.fails(ARGUMENT, "-2", () -> w.stolen(0, -2));
         CHECK.due("as before", 5, () -> w.stolen(0, -1));
     }
 
@@ -346,22 +346,22 @@ public final class RunnerTest {
         CHECK.due("it was not", false, () -> w.voided(0, 4, false));
         CHECK.due("the only leg", false, () -> w.voided(1, 0, true));
         CHECK.due("of another course", false, () -> w.voided(0, 0, true));
-        CHECK.refuses(w, INDEX, "course 2", () -> w.voided(2, 0, true));
-        CHECK.refuses(w, INDEX, "course -1", () -> w.voided(-1, 0, true));
-        CHECK.refuses(w, INDEX, "leg 5", () -> w.voided(0, 5, true));
-        CHECK.refuses(w, INDEX, "leg 1", () -> w.voided(1, 1, true));
-        CHECK.refuses(w, INDEX, "leg -1", () -> w.voided(0, -1, true));
+        CHECK.fails(INDEX, "course 2", () -> w.voided(2, 0, true));
+        CHECK.fails(INDEX, "course -1", () -> w.voided(-1, 0, true));
+        CHECK.fails(INDEX, "leg 5", () -> w.voided(0, 5, true));
+        CHECK.fails(INDEX, "leg 1", () -> w.voided(1, 1, true));
+        CHECK.fails(INDEX, "leg -1", () -> w.voided(0, -1, true));
     }
 
     private static void rule() {
         ControlWood w = wood();
         w.runner(0, 1);
-        CHECK.refuses(w, INDEX, "runner 1", () -> w.rule(1, -2));
-        CHECK.refuses(w, INDEX, "runner -1", () -> w.rule(-1, 0));
-        CHECK.refuses(w, UNSUPPORTED, "no start", () -> w.rule(0, -2));
+        CHECK.fails(INDEX, "runner 1", () -> w.rule(1, -2));
+        CHECK.fails(INDEX, "runner -1", () -> w.rule(-1, 0));
+        CHECK.fails(UNSUPPORTED, "no start", () -> w.rule(0, -2));
         w.start(0, 60);
-        CHECK.refuses(w, ARGUMENT, "-2", () -> w.rule(0, -2));
-        CHECK.refuses(w, ARGUMENT, "100000", () -> w.rule(0, 100000));
+        CHECK.fails(ARGUMENT, "-2", () -> w.rule(0, -2));
+        CHECK.fails(ARGUMENT, "100000", () -> w.rule(0, 100000));
         CHECK.due("the told one", 60, () -> w.rule(0, 0));
         CHECK.due("the ruled one", 0, () -> w.rule(0, 99999));
         CHECK.due("the ruled one", 99999, () -> w.rule(0, -1));
