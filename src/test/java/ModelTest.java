@@ -315,7 +315,8 @@ public final class ModelTest {
     }
 
     private boolean isTooFar(Object[] args) {
-        return model.controls.size() > 5 && ((int) args[1] > 60 || (int) args[2] < 200);
+        int count = model.controls.size();
+        return count > 8 || count > 5 && ((int) args[1] > 60 || (int) args[2] < 200);
     }
 
     private static Object answer(Method method, Object object, Object[] args) {
